@@ -121,6 +121,13 @@ public final class FireTest {
         y.valley(0);
         y.take(1);
         Due.due("all 100 years are counted, and no more", y.lacks(0), 0);
+        MountainsInMourning z = inARow(0, 0);
+        z.valley(1);
+        z.valley(1);
+        z.under(1, 0, true);
+        z.years(1);
+        z.take(1);
+        Due.due("this year is counted", z.lacks(0), 1);
     }
 
     private static void saves() {

@@ -178,6 +178,11 @@ public final class GriefTest {
         y.peak(0, 0, 60, 50);
         Due.due("of several the first", y.hide(0, 1), 31);
         Due.due("of several the first", y.hide(1, 0), 31);
+        MountainsInMourning z = new MountainsInMourning();
+        z.peak(0, 0, 31, 5);
+        z.peak(0, 0, 30, 50);
+        z.peak(0, 0, 60, 50);
+        Due.due("31 has the first of all peaks", z.hide(1, 2), 32);
         Due.due("no peak", y.hide(2, 0), -11);
         Due.due("no other", y.hide(0, -1), -11);
         Due.due("itself", y.hide(0, 0), -16);

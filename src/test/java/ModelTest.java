@@ -60,10 +60,31 @@ public final class ModelTest {
                 years(draw(1, 60));
             }
         }
+        due("image", x.image(), y.image());
         for (int i = 0; i < CALLS - 60; i++) {
             call();
+            if (y.w.standing() < Math.min(3, peaks) && draw(0, 3) == 0) {
+                due("restore", x.restore(), y.restore());
+                years(draw(1, 99));
+            }
+            if (draw(0, 15) == 0) {
+                lookAll();
+            }
         }
         end();
+    }
+
+    /** Who sees whom, who mourns and who is black, now and later. */
+    private void lookAll() {
+        for (int p = 0; p < y.w.peaks.size(); p++) {
+            due("peakOf " + p + " 5", x.peakOf(p, 5), y.peakOf(p, 5));
+            due("peakOf " + p + " 6", x.peakOf(p, 6), y.peakOf(p, 6));
+            due("black " + p, x.black(p, 0), y.black(p, 0));
+        }
+        for (int n = 0; n < 100; n += draw(1, 30)) {
+            due("behind " + n + " 0", x.behind(n, 0), y.behind(n, 0));
+            due("behind " + n + " 1", x.behind(n, 1), y.behind(n, 1));
+        }
     }
 
     private void peak() {

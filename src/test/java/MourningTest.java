@@ -119,6 +119,10 @@ public final class MourningTest {
         Due.due("in the last year", x.behind(3, 0), 2 + 4 + 8 + 16 + 32);
         Due.due("behind it", x.behind(4, 0), 0);
         Due.due("how many", x.status(5), 5);
+        MountainsInMourning z = inARow(1, 0, 0);
+        z.years(1);
+        z.take(2);
+        Due.due("the first of all is polite", z.behind(0, 0), 3);
         MountainsInMourning y = inARow(3, 3, 3, 0, 0);
         y.years(1);
         y.take(4);

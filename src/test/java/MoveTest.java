@@ -255,15 +255,17 @@ public final class MoveTest {
         x.peak(0, 0, 1, 10);
         x.image();
         x.peak(0, 0, 2, 10);
-        x.show(0, 1);
-        x.show(1, 2);
+        x.show(0, 2);
+        x.show(1, 1);
+        x.show(7, 2);
         x.row(2, 3, 4);
         Due.due("restore", x.restore(), 2);
-        Due.due("a peak of the image", x.holds(0), 1);
-        Due.due("one that isn't there", x.holds(1), -1);
+        Due.due("a peak of the image", x.holds(1), 1);
+        Due.due("one that isn't there", x.holds(0), -1);
+        Due.due("one that isn't there", x.holds(7), -1);
         Due.due("a row", x.holds(2), 103);
         Due.due("nothing", x.holds(3), -1);
-        Due.due("it says its height", x.says(0, 0), 10);
+        Due.due("it says its height", x.says(1, 0), 10);
     }
 
     private static void status() {

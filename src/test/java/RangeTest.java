@@ -306,14 +306,19 @@ public final class RangeTest {
         fault(x, "screen 100 1", 7);
         fault(x, "screen 99 0", 10);
         fault(x, "valley 1000", 10);
-        fault(x, "under 0 1", 6);
-        fault(x, "valley 0;under 1 1", 15);
-        fault(x, "valley 0;under 0 2", 17);
-        fault(x, "valley 0;under 0 0", -1);
+        fault(x, "valley 999", -1);
+        fault(x, "years 999;screen 99 999;peak 6 9 99 999", -1);
+        fault(x, "under 1 1", 6);
+        fault(x, "valley 0;under 2 1", 15);
+        fault(x, "valley 0;under 1 3", 17);
+        fault(x, "valley 0;under 1 0", -1);
         fault(x, "take 0", 5);
-        fault(x, "take 2", 5);
+        fault(x, "take 3", 5);
         fault(x, "take 1;take 1", 12);
-        fault(x, "peak 0 0 50 1;take 2;peak 0 0 50 1", 30);
+        fault(x, "peak 0 0 50 1;take 3;peak 0 0 50 1", 30);
+        MountainsInMourning y = new MountainsInMourning();
+        fault(y, "under 0 1", 6);
+        fault(y, "take 0", 5);
     }
 
     private static void faultsOfRoom() {
@@ -339,6 +344,7 @@ public final class RangeTest {
         fault(x, "valley 1", 0);
         fault(x, "valle", 5);
         fault(x, "years 1;valley", 8);
+        fault(x, "years 1;vall", 12);
         fault(x, "under 7 9;years 1;take 0", -1);
     }
 
