@@ -159,6 +159,7 @@ public final class MountainsInMourning {
                 return now.mournedYears(peak, CENTURY);
             case FAR:
                 return now.sightOf(peak);
+            case PEAK:
             default:
                 return now.height[peak];
         }
