@@ -43,6 +43,15 @@ final class Due {
         }
     }
 
+    /** Peaks of these kinds and one height, 10 apart: each sees its neighbours alone. */
+    static MountainsInMourning inARow(int... kinds) {
+        MountainsInMourning x = new MountainsInMourning();
+        for (int p = 0; p < kinds.length; p++) {
+            x.peak(kinds[p], 9, 10 * p, 10);
+        }
+        return x;
+    }
+
     /** The answers of status for the refusals -1 to -7. */
     static int[] refusals(MountainsInMourning x) {
         int[] counts = new int[7];

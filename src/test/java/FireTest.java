@@ -12,16 +12,8 @@ public final class FireTest {
         Due.end();
     }
 
-    private static MountainsInMourning inARow(int... kinds) {
-        MountainsInMourning x = new MountainsInMourning();
-        for (int p = 0; p < kinds.length; p++) {
-            x.peak(kinds[p], 9, 10 * p, 10);
-        }
-        return x;
-    }
-
     private static void fires() {
-        MountainsInMourning x = inARow(0, 0, 0, 0, 0, 0, 0);
+        MountainsInMourning x = Due.inARow(0, 0, 0, 0, 0, 0, 0);
         Due.due("for none", x.fires(0), 0);
         Due.due("for one: itself or the neighbour, the least", x.fires(2), 1);
         Due.due("for three in a row", x.fires(7), 2);
@@ -33,7 +25,7 @@ public final class FireTest {
     }
 
     private static void firesOfLost() {
-        MountainsInMourning x = inARow(0, 0, 0, 0);
+        MountainsInMourning x = Due.inARow(0, 0, 0, 0);
         x.take(1);
         Due.due("lost ones need none", x.fires(2), 0);
         Due.due("and can have none", x.fires(7), 1);
@@ -69,7 +61,7 @@ public final class FireTest {
     }
 
     private static void chain() {
-        MountainsInMourning x = inARow(0, 0, 0, 0);
+        MountainsInMourning x = Due.inARow(0, 0, 0, 0);
         Due.due("at once", x.chain(0, 1), 0);
         Due.due("through one", x.chain(2, 0), 1);
         Due.due("through two", x.chain(0, 3), 2);
@@ -82,12 +74,12 @@ public final class FireTest {
         Due.due("the far one doesn't see the other's", y.chain(1, 0), -1);
         y.peak(0, 0, 10, 5);
         Due.due("but through one that it sees", y.chain(1, 0), 1);
-        MountainsInMourning z = inARow(0, 0, 0, 0, 0, 0, 0, 0, 0, 0);
+        MountainsInMourning z = Due.inARow(0, 0, 0, 0, 0, 0, 0, 0, 0, 0);
         Due.due("through all others", z.chain(9, 0), 8);
     }
 
     private static void chainRefusals() {
-        MountainsInMourning x = inARow(0, 0, 0);
+        MountainsInMourning x = Due.inARow(0, 0, 0);
         x.take(2);
         Due.due("no peak", x.chain(3, 3), -11);
         Due.due("no peak", x.chain(-1, 0), -11);
@@ -99,7 +91,7 @@ public final class FireTest {
     }
 
     private static void lacks() {
-        MountainsInMourning x = inARow(0, 0, 2);
+        MountainsInMourning x = Due.inARow(0, 0, 2);
         Due.due("no valleys", x.lacks(0), -5);
         x.valley(5);
         x.valley(5);
@@ -114,14 +106,14 @@ public final class FireTest {
         Due.due("another what", x.lacks(2), -5);
         Due.due("another what", x.lacks(-1), -5);
         Due.refused(x, 0, 0, 0, 0, 3, 0, 0);
-        MountainsInMourning y = inARow(6, 0);
+        MountainsInMourning y = Due.inARow(6, 0);
         y.years(100);
         y.valley(1);
         y.under(0, 0, true);
         y.valley(0);
         y.take(1);
         Due.due("all 100 years are counted, and no more", y.lacks(0), 0);
-        MountainsInMourning z = inARow(0, 0);
+        MountainsInMourning z = Due.inARow(0, 0);
         z.valley(1);
         z.valley(1);
         z.under(1, 0, true);
@@ -158,7 +150,7 @@ public final class FireTest {
     }
 
     private static void spared() {
-        MountainsInMourning x = inARow(0, 0, 0);
+        MountainsInMourning x = Due.inARow(0, 0, 0);
         x.years(10);
         Due.due("at once", x.spared(0, 10), 0);
         Due.due("it grows by the year", x.spared(0, 9), -1);

@@ -14,16 +14,8 @@ public final class GriefTest {
         Due.end();
     }
 
-    private static MountainsInMourning inARow(int... kinds) {
-        MountainsInMourning x = new MountainsInMourning();
-        for (int p = 0; p < kinds.length; p++) {
-            x.peak(kinds[p], 9, 10 * p, 10);
-        }
-        return x;
-    }
-
     private static void grief() {
-        MountainsInMourning x = inARow(6, 0, 2, 0);
+        MountainsInMourning x = Due.inARow(6, 0, 2, 0);
         x.years(12);
         Due.due("of one that an old and a young one see", x.grief(1), 24 + 6);
         Due.due("of one at the end", x.grief(0), 12);
@@ -38,7 +30,7 @@ public final class GriefTest {
     }
 
     private static void griefChangesNothing() {
-        MountainsInMourning x = inARow(0, 0);
+        MountainsInMourning x = Due.inARow(0, 0);
         x.years(5);
         x.grief(0);
         x.cost(0);
@@ -67,7 +59,7 @@ public final class GriefTest {
     }
 
     private static void order() {
-        MountainsInMourning x = inARow(6, 0, 5, 6);
+        MountainsInMourning x = Due.inARow(6, 0, 5, 6);
         x.years(20);
         Due.due("grief of 0", x.grief(0), 20);
         Due.due("grief of 1", x.grief(1), 40 + 9);
@@ -83,7 +75,7 @@ public final class GriefTest {
         Due.due("the second", x.order(3, 1), 1);
         Due.due("the third", x.order(3, 2), 3);
         Due.due("nothing is lost", x.status(1), 4);
-        MountainsInMourning y = inARow(0, 0, 0);
+        MountainsInMourning y = Due.inARow(0, 0, 0);
         Due.due("of equal ones the first", y.order(3, 0), 0);
         Due.due("of equal ones the first", y.order(3, 1), 1);
         Due.due("of equal ones the first", y.order(3, 2), 2);
@@ -91,7 +83,7 @@ public final class GriefTest {
     }
 
     private static void orderRefusals() {
-        MountainsInMourning x = inARow(0, 0, 0);
+        MountainsInMourning x = Due.inARow(0, 0, 0);
         Due.due("no k", x.order(0, 0), -6);
         Due.due("no k", x.order(4, -1), -6);
         Due.due("no k, so no look at i", x.order(4, 7), -6);
@@ -106,7 +98,7 @@ public final class GriefTest {
     }
 
     private static void cost() {
-        MountainsInMourning x = inARow(0, 0, 0);
+        MountainsInMourning x = Due.inARow(0, 0, 0);
         x.valley(10);
         x.under(0, 0, true);
         x.valley(1);
@@ -122,7 +114,7 @@ public final class GriefTest {
         Due.due("no peak", x.cost(3), -1000001);
         Due.due("no peak", x.cost(-1), -1000001);
         Due.refused(x, 2, 0, 0, 0, 0, 1, 0);
-        MountainsInMourning y = inARow(0, 0, 6);
+        MountainsInMourning y = Due.inARow(0, 0, 6);
         y.valley(1);
         y.under(0, 2, true);
         y.years(400);
@@ -202,7 +194,7 @@ public final class GriefTest {
     }
 
     private static void fits() {
-        MountainsInMourning x = inARow(0, 0, 0, 2);
+        MountainsInMourning x = Due.inARow(0, 0, 0, 2);
         x.years(20);
         Due.numbers(x, 0, 0, -1, -1, -1);
         Due.due("fewer elements than peaks", x.fits(0), -5);

@@ -14,17 +14,8 @@ public final class MourningTest {
         Due.end();
     }
 
-    /** Peaks of these kinds and one height, 10 apart: each sees its neighbours alone. */
-    private static MountainsInMourning inARow(int... kinds) {
-        MountainsInMourning x = new MountainsInMourning();
-        for (int p = 0; p < kinds.length; p++) {
-            x.peak(kinds[p], 9, 10 * p, 10);
-        }
-        return x;
-    }
-
     private static void since() {
-        MountainsInMourning x = inARow(0, 0, 0);
+        MountainsInMourning x = Due.inARow(0, 0, 0);
         Due.due("since the first year", x.since(0, 1), 0);
         Due.due("it doesn't see it", x.since(0, 2), -1);
         Due.due("it doesn't see itself", x.since(1, 1), -1);
@@ -54,7 +45,7 @@ public final class MourningTest {
     }
 
     private static void sinceRefusals() {
-        MountainsInMourning x = inARow(0, 0);
+        MountainsInMourning x = Due.inARow(0, 0);
         Due.due("no peak", x.since(2, 0), -11);
         Due.due("no peak", x.since(-1, 0), -11);
         Due.due("no other", x.since(0, 2), -11);
@@ -65,14 +56,14 @@ public final class MourningTest {
     private static void yearsOfMourning() {
         int[] due = {51, 51, 25, 51, 51, 9, 102};
         for (int kind = 0; kind <= 6; kind++) {
-            MountainsInMourning x = inARow(0, kind);
+            MountainsInMourning x = Due.inARow(0, kind);
             x.years(51);
             x.take(0);
             Due.due("UNTIL of kind " + kind, x.peakOf(1, 5), 51 + due[kind]);
             Due.due("in mourning to the last year", x.black(1, due[kind] - 1), 1);
             Due.due("not in it behind that", x.black(1, due[kind]), 0);
         }
-        MountainsInMourning y = inARow(0, 5);
+        MountainsInMourning y = Due.inARow(0, 5);
         y.years(7);
         y.take(0);
         Due.due("a spring that saw it for 7 years", y.peakOf(1, 5), 10);
@@ -101,7 +92,7 @@ public final class MourningTest {
     private static void blackByKinds() {
         int[] due = {0, 1, 0, 1, 0, 0, 0};
         for (int kind = 0; kind <= 6; kind++) {
-            MountainsInMourning x = inARow(0, 0, kind, kind, kind);
+            MountainsInMourning x = Due.inARow(0, 0, kind, kind, kind);
             x.years(2);
             x.take(0);
             Due.due("kind " + kind + " beside one in mourning", x.black(2, 0), due[kind]);
@@ -111,7 +102,7 @@ public final class MourningTest {
     }
 
     private static void blackInTheEnd() {
-        MountainsInMourning x = inARow(0, 0, 1, 3, 3, 3, 0, 3);
+        MountainsInMourning x = Due.inARow(0, 0, 1, 3, 3, 3, 0, 3);
         x.years(4);
         Due.due("none is black by itself", x.behind(0, 0), 0);
         x.take(0);
@@ -119,11 +110,11 @@ public final class MourningTest {
         Due.due("in the last year", x.behind(3, 0), 2 + 4 + 8 + 16 + 32);
         Due.due("behind it", x.behind(4, 0), 0);
         Due.due("how many", x.status(5), 5);
-        MountainsInMourning z = inARow(1, 0, 0);
+        MountainsInMourning z = Due.inARow(1, 0, 0);
         z.years(1);
         z.take(2);
         Due.due("the first of all is polite", z.behind(0, 0), 3);
-        MountainsInMourning y = inARow(3, 3, 3, 0, 0);
+        MountainsInMourning y = Due.inARow(3, 3, 3, 0, 0);
         y.years(1);
         y.take(4);
         Due.due("from the higher numbers to the lower", y.behind(0, 0), 15);
@@ -132,7 +123,7 @@ public final class MourningTest {
     }
 
     private static void black() {
-        MountainsInMourning x = inARow(0, 0);
+        MountainsInMourning x = Due.inARow(0, 0);
         x.years(999);
         x.take(1);
         Due.due("no peak", x.black(2, -1), -1);
@@ -146,7 +137,7 @@ public final class MourningTest {
     }
 
     private static void behind() {
-        MountainsInMourning x = inARow(0, 0, 0);
+        MountainsInMourning x = Due.inARow(0, 0, 0);
         x.valley(10);
         x.valley(7);
         x.valley(500);
@@ -168,7 +159,7 @@ public final class MourningTest {
     }
 
     private static void white() {
-        MountainsInMourning x = inARow(6, 0, 0);
+        MountainsInMourning x = Due.inARow(6, 0, 0);
         Due.due("white at once", x.white(), 0);
         x.years(500);
         x.take(1);
@@ -182,7 +173,7 @@ public final class MourningTest {
     }
 
     private static void yields() {
-        MountainsInMourning x = inARow(0, 0);
+        MountainsInMourning x = Due.inARow(0, 0);
         x.valley(3);
         x.valley(100);
         x.under(1, 0, true);

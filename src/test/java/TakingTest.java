@@ -15,16 +15,8 @@ public final class TakingTest {
         Due.end();
     }
 
-    private static MountainsInMourning inARow(int... kinds) {
-        MountainsInMourning x = new MountainsInMourning();
-        for (int p = 0; p < kinds.length; p++) {
-            x.peak(kinds[p], 9, 10 * p, 10);
-        }
-        return x;
-    }
-
     private static void judge() {
-        MountainsInMourning x = inARow(0, 0, 0);
+        MountainsInMourning x = Due.inARow(0, 0, 0);
         x.take(2);
         long[] wrong = {-1, 2, 3, 10, 99, 100, 200, 1000, Integer.MIN_VALUE, Integer.MAX_VALUE};
         for (long taking : wrong) {
@@ -45,7 +37,7 @@ public final class TakingTest {
     }
 
     private static void judgeRefusals() {
-        MountainsInMourning x = inARow(0);
+        MountainsInMourning x = Due.inARow(0);
         x.show(1, 0);
         x.row(0, 2, 30);
         x.row(2, 2, 20);
@@ -65,7 +57,7 @@ public final class TakingTest {
     }
 
     private static void told() {
-        MountainsInMourning x = inARow(0, 6, 0, 1);
+        MountainsInMourning x = Due.inARow(0, 6, 0, 1);
         x.years(5);
         Due.numbers(x, 0, 2, 0, 110, 2, 101);
         Due.due("grief of none", x.told(0, 0, 0), 0);
@@ -85,7 +77,7 @@ public final class TakingTest {
     }
 
     private static void toldRefusals() {
-        MountainsInMourning x = inARow(0, 0);
+        MountainsInMourning x = Due.inARow(0, 0);
         x.show(1, 0);
         x.row(0, 2, 30);
         Due.due("no shelf", x.told(8, -1, 3), -1);
@@ -102,7 +94,7 @@ public final class TakingTest {
     }
 
     private static void done() {
-        MountainsInMourning x = inARow(0, 6, 0, 1);
+        MountainsInMourning x = Due.inARow(0, 6, 0, 1);
         x.years(5);
         Due.numbers(x, 0, 2, 0, 110, 2, 101);
         Due.due("none", x.done(0, 0), 5);
@@ -115,7 +107,7 @@ public final class TakingTest {
     }
 
     private static void doneRefusals() {
-        MountainsInMourning x = inARow(0, 0);
+        MountainsInMourning x = Due.inARow(0, 0);
         x.show(1, 0);
         x.row(0, 2, 30);
         Due.due("no shelf", x.done(-1, -1), -1);
@@ -130,7 +122,7 @@ public final class TakingTest {
     }
 
     private static void take() {
-        MountainsInMourning x = inARow(0, 6, 2);
+        MountainsInMourning x = Due.inARow(0, 6, 2);
         x.years(9);
         Due.due("no peak", x.take(3), -1);
         Due.due("no peak", x.take(-1), -1);
@@ -190,8 +182,8 @@ public final class TakingTest {
 
     private static void agesLose() {
         for (int seed = -40; seed < 40; seed++) {
-            MountainsInMourning x = inARow(0, 1, 2, 3, 4, 5, 6);
-            MountainsInMourning y = inARow(0, 1, 2, 3, 4, 5, 6);
+            MountainsInMourning x = Due.inARow(0, 1, 2, 3, 4, 5, 6);
+            MountainsInMourning y = Due.inARow(0, 1, 2, 3, 4, 5, 6);
             x.take(2);
             y.take(2);
             x.seed(seed * 123456789);
