@@ -372,14 +372,12 @@ public final class MountainsInMourning {
     }
 
     public int order(int k, int i) {
-        if (k < 1 || k > MOST_IN_ORDER) {
+        // an i goes with its k, so it is looked at only where such a row can be
+        if (k < 1 || k > MOST_IN_ORDER || Integer.bitCount(now.standing) < k) {
             return refused(WRONG);
         }
         if (i < NONE || i >= k) {
             return refused(BEYOND);
-        }
-        if (Integer.bitCount(now.standing) < k) {
-            return refused(WRONG);
         }
         orders.find(now, k);
         return i == NONE ? orders.leastGrief : orders.best[i];

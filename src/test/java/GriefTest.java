@@ -6,6 +6,7 @@ public final class GriefTest {
         least();
         order();
         orderRefusals();
+        orderOfMoreThanStand();
         cost();
         screened();
         hide();
@@ -93,8 +94,36 @@ public final class GriefTest {
         x.take(0);
         Due.due("fewer that stand", x.order(3, 0), -6);
         Due.due("as many as stand", x.order(2, 0), 1);
-        Due.due("no i ahead of fewer that stand", x.order(3, 3), -5);
-        Due.refused(x, 0, 0, 0, 0, 3, 5, 0);
+        Due.due("fewer that stand, so no look at i", x.order(3, 3), -6);
+        Due.refused(x, 0, 0, 0, 0, 2, 6, 0);
+    }
+
+    private static void orderOfMoreThanStand() {
+        MountainsInMourning x = Due.inARow(0, 0, 0);
+        int refusals = 0;
+        for (int stand = 3; stand >= 0; stand--) {
+            for (int k = stand + 1; k <= 3; k++) {
+                for (int i = -3; i <= 4; i++) {
+                    refusals++;
+                    Due.due(stand + " stand, order " + k + " " + i, x.order(k, i), -6);
+                    Due.refused(x, 0, 0, 0, 0, 0, refusals, 0);
+                }
+                refusals += 2;
+                Due.due(stand + " stand, order " + k + ", smallest i", x.order(k, Integer.MIN_VALUE), -6);
+                Due.due(stand + " stand, order " + k + ", greatest i", x.order(k, Integer.MAX_VALUE), -6);
+            }
+            if (stand > 0) {
+                x.take(stand - 1);
+            }
+        }
+        Due.refused(x, 0, 0, 0, 0, 0, refusals, 0);
+        MountainsInMourning y = Due.inARow(0, 0, 0);
+        for (int k = 1; k <= 3; k++) {
+            Due.due("as many as stand, i too small, order " + k, y.order(k, -2), -5);
+            Due.due("as many as stand, i too large, order " + k, y.order(k, k), -5);
+            Due.due("as many as stand, i fits, order " + k, y.order(k, k - 1), k - 1);
+        }
+        Due.refused(y, 0, 0, 0, 0, 6, 0, 0);
     }
 
     private static void cost() {

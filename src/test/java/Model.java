@@ -659,14 +659,11 @@ final class Model {
     }
 
     int order(int k, int i) {
-        if (!in(k, 1, 3)) {
+        if (!in(k, 1, 3) || w.standing() < k) {
             return no(6);
         }
         if (!in(i, -1, k - 1)) {
             return no(5);
-        }
-        if (w.standing() < k) {
-            return no(6);
         }
         bestRow = null;
         rows(w, k, new int[3], 0, 0);
