@@ -8,13 +8,15 @@ import java.util.regex.Matcher;
 import java.util.regex.Pattern;
 
 /**
- * That the quotes of src/test/promises stand in the document, and that each word of it from "Terms" to the last promise
- * is quoted by some run; that each refusal a promise names is looked at by a run of that promise. A document that was
+ * That the quotes of src/test/promises stand in the document, and that each word of it from "What it is" to the last
+ * promise is quoted by some run; that each refusal a promise names is looked at by a run of that promise. A document that was
  * changed behind the tests is no fault of the class: so what is amiss is only told, and fails with -Dstrict=true alone.
  */
 public final class DocumentTest {
     private static final Pattern HEAD = Pattern.compile("## Promise (\\d+): (A new object|\\w+)");
     private static final Pattern SIGNATURE = Pattern.compile("`[^`]*`: ");
+    /** LanguageTest looks it up. */
+    private static final String FACE = "(?s)## The public face\\s+```java.*?```";
     private static final Pattern REFUSAL = Pattern.compile("-1?[1-7]\\b(?!\\d)|-100000[16]");
 
     private final String document;
@@ -29,9 +31,9 @@ public final class DocumentTest {
     public static void main(String[] args) throws IOException {
         Path file = Path.of(System.getProperty("project.root", "."), "..", "shared", "DOC.md");
         String text = Files.exists(file) ? Files.readString(file, StandardCharsets.UTF_8) : "";
-        int start = Math.max(text.indexOf("## Terms"), 0);
+        int start = Math.max(text.indexOf("## What it is"), 0);
         int end = text.indexOf("## Not promised");
-        String part = text.substring(start, end < start ? text.length() : end);
+        String part = text.substring(start, end < start ? text.length() : end).replaceAll(FACE, "");
         DocumentTest test = new DocumentTest(part.replaceAll("\\s+", " "));
         for (Path runs : PromiseTest.files()) {
             test.runs(Files.readAllLines(runs, StandardCharsets.US_ASCII));
@@ -99,7 +101,7 @@ public final class DocumentTest {
     /** What no quote holds, but heads and signatures. */
     private void unquoted() {
         String bare = document;
-        for (String left : new String[] {HEAD.pattern(), SIGNATURE.pattern(), "```(text)?", "==== \\d\\. [A-Z ]+", "## Terms", "Details\\."}) {
+        for (String left : new String[] {HEAD.pattern(), SIGNATURE.pattern(), "```(text)?", "==== \\d\\. [A-Z ]+", "## (What it is|Terms)", "Details\\."}) {
             Matcher m = Pattern.compile(left).matcher(bare);
             while (m.find()) {
                 for (int i = m.start(); i < m.end(); i++) {
